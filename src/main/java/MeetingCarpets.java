@@ -5,7 +5,7 @@ public final class MeetingCarpets {
 
     private static final int LEAST_REPEAT = 2, MOST_REPEAT = 60, FIRST_REPEAT = 24;
     private static final int LEAST_ROLL = 20, MOST_ROLL = 400, FIRST_ROLL = 120;
-    private static final int LEAST_SLACK = 0, MOST_SLACK = 9;
+    private static final int LEAST_SLACK = 0, MOST_SLACK = 9, FIRST_SLACK = 0;
     private static final int LEAST_RISER = 10, MOST_RISER = 25;
     private static final int LEAST_TREAD = 15, MOST_TREAD = 40;
     private static final int LEAST_ALIKE = 2, MOST_ALIKE = 20;
@@ -290,9 +290,14 @@ public final class MeetingCarpets {
     private int trimsIfLaid(int step) {
         copyHouse(now, trial);
         trial.takeAllUp();
-        boolean allLaid = trial.layNextSteps(trial.lower, step)
-                && trial.layNextSteps(trial.upper, trial.stairs.steps - step);
-        return allLaid ? trial.allTrims() : NONE;
+        for (int i = 0; i < now.stairs.steps; i++) {
+            Crew who = i < step ? trial.lower : trial.upper;
+            if (!trial.canLayNext(who)) {
+                return NONE;
+            }
+            trial.layNext(who);
+        }
+        return trial.allTrims();
     }
 
     public int leastTrim() {
@@ -486,7 +491,7 @@ public final class MeetingCarpets {
         }
 
         private int lengthFrom(int step) {
-            return wholeLength() - lengthBelow(step);
+            return numberAt(feet, steps) - numberAt(feet, step);
         }
     }
 
@@ -527,7 +532,7 @@ public final class MeetingCarpets {
     private static final class House {
         private int repeat = FIRST_REPEAT;
         private int roll = FIRST_ROLL;
-        private int slack = LEAST_SLACK;
+        private int slack = FIRST_SLACK;
         private final Stairs stairs = new Stairs();
         private final Crew lower = new Crew(true);
         private final Crew upper = new Crew(false);
@@ -662,16 +667,6 @@ public final class MeetingCarpets {
             who.trims += cut;
             who.left -= cut + length;
             who.laid++;
-        }
-
-        private boolean layNextSteps(Crew who, int steps) {
-            for (int i = 0; i < steps; i++) {
-                if (!canLayNext(who)) {
-                    return false;
-                }
-                layNext(who);
-            }
-            return true;
         }
 
         private int takeUpLatest(Crew who) {

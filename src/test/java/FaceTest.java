@@ -25,6 +25,7 @@ final class FaceTest {
             wanted.add("public static final int " + constant);
         }
         due.same("members", members().toString(), wanted.toString());
+        due.same("private methods that bear a public one's name", namesUsedAgain().toString(), "[]");
         due.same("class", Modifier.toString(MeetingCarpets.class.getModifiers()), "public final");
         due.end();
     }
@@ -42,6 +43,23 @@ final class FaceTest {
             add(members, field.getModifiers(), field.getType().getName() + " " + field.getName());
         }
         return members;
+    }
+
+    /** LANGUAGE.md, rule 1; the methods of classes inside count, too. */
+    private static Set<String> namesUsedAgain() {
+        Set<String> again = new TreeSet<>();
+        Set<String> names = new TreeSet<>();
+        for (String method : METHODS) {
+            names.add(method.substring(0, method.indexOf('(')));
+        }
+        for (Class<?> inside : MeetingCarpets.class.getDeclaredClasses()) {
+            for (Method method : inside.getDeclaredMethods()) {
+                if (names.contains(method.getName())) {
+                    again.add(inside.getName() + "." + method.getName());
+                }
+            }
+        }
+        return again;
     }
 
     private static void add(Set<String> members, int modifiers, String member) {
