@@ -70,7 +70,8 @@ final class AgainstPlainHouseTest {
             set(0, around(2, 60));
             set(1, run % 3 == 1 ? around(20, 130) : around(100, 400));
         }
-        int steps = draw(8);
+        // In each fifth run the house is full, and refuses some.
+        int steps = run % 5 == 0 ? 26 : draw(8);
         for (int i = 0; i < steps; i++) {
             build();
         }

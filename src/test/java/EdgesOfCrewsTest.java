@@ -189,7 +189,7 @@ final class EdgesOfCrewsTest {
             set(1, 64) = 120  build(25, 40) = 0  begin(1, 16) = 0  lay(0) = NOT_POSSIBLE  lay(1) = NOT_POSSIBLE
             set(1, 65) = 64  begin(1, 17) = 16  lay(1) = 0  crew(1, 2) = 0  takeUp(1) = 0  lay(0) = 0
             crew(0, 2) = 0""");
-        edges.run("a new piece would do, but its own trim is too much; the old one, which lies right, does", """
+        edges.run("the rest of a piece that lies at its place already, and is just long enough, is used to its end", """
             set(0, 40) = 24  set(1, 50) = 120  build(10, 15) = 0  lay(0) = 0  crew(0, 2) = 25  takeUp(0) = 0
             begin(0, 26) = 0  lay(0) = NOT_POSSIBLE  begin(0, 25) = 26  lay(0) = 25  crew(0, 2) = 0
             crew(0, 3) = 1  crew(0, 5) = 25""");

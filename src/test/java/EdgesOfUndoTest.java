@@ -103,6 +103,9 @@ final class EdgesOfUndoTest {
         edges.run("everything except the slots: what is saved stays saved", """
             build(10, 15) = 0  save(0) = 1  undo() = 0  count(3) = 0  restore(0) = 1  count(3) = 1  undo() = 0
             count(3) = 0  restore(0) = 1  undo() = 0  restore(1) = NOT_POSSIBLE""");
+        edges.run("everything except the slots: both, filled ahead of the change and behind it", """
+            save(0) = 0  build(10, 15) = 0  save(1) = 1  undo() = 0  restore(1) = 1  undo() = 0  restore(0) = 0
+            undo() = 0  restore(1) = 1  restore(0) = 0""");
         edges.run("undo is no change itself", """
             build(10, 15) = 0  build(10, 16) = 1  undo() = 1  undo() = 0  undo() = NOT_POSSIBLE  count(16) = 0""");
     }
@@ -164,6 +167,10 @@ final class EdgesOfUndoTest {
         edges.run("restore is a change, also if nothing is different then, and the oldest state is dropped", """
             save(0) = 0  restore(0) = 0  count(16) = 1  5 x restore(0) = 0  count(16) = 6  restore(0) = 0  count(16) = 6
             begin(0, 1) = 0  restore(0) = 0  crew(0, 0) = 0  undo() = 5  crew(0, 0) = 1  undo() = 4  crew(0, 0) = 0""");
+        edges.run("restore leaves the pad and the other slot as they are", """
+            put("10/1") = 4  save(0) = 0  build(10, 15) = 0  save(1) = 1  put("5") = 5  restore(0) = 0  count(15) = 5
+            fault() = NONE  restore(1) = 1  count(15) = 5  wipe() = 5  restore(0) = 0  count(15) = 0
+            restore(1) = 1""");
         edges.run("a history is not saved: undo goes back through restore", """
             build(10, 15) = 0  save(0) = 1  build(10, 16) = 1  build(10, 17) = 2  restore(0) = 1  count(16) = 4
             undo() = 3  count(3) = 3  undo() = 2  count(3) = 2  undo() = 1  count(3) = 1  undo() = 0  count(3) = 0""");

@@ -12,6 +12,7 @@ final class EdgesOfWhatIfTest {
         test.ifLaidSteps();
         test.ifLaidNone();
         test.ifLaidWhateverIsLaid();
+        test.whenAPieceIsTakenAndNothingLaid();
         test.leastTrimNone();
         test.leastTrimOfSeveral();
         test.edges.end();
@@ -135,6 +136,13 @@ final class EdgesOfWhatIfTest {
             ifLaid(0) = 187  ifLaid(2) = 142  ifLaid(4) = 195  lay(0) = 3  lay(0) = 15  takeUp(0) = 1  lay(1) = 17
             ifLaid(0) = 187  ifLaid(2) = 142  ifLaid(4) = 195  lay(1) = 5  lay(1) = 17  count(4) = 4
             ifLaid(0) = 187  ifLaid(2) = 142  ifLaid(4) = 195  leastTrim() = 1  count(8) = 274""");
+    }
+
+    private void whenAPieceIsTakenAndNothingLaid() {
+        edges.runOfEachCrew("nothing changes, also when a piece is taken, but no step is laid", """
+            build(20, 20) = 0  build(20, 20) = 1  lay(#)  takeUp(#)  ifMet(1, 0) = 8  ifMet(1, 1) = 8
+            bestBeginning(0) = 16  bestBeginning(1) = 8  ifLaid(0) = 0  ifLaid(1) = 0  ifLaid(2) = 0  leastTrim() = 0
+            fault() = 0  step(0, 5) = NONE  crew(#, 2) = 80  crew(#, 5) = 40  count(8) = 40  count(9) = 80""");
     }
 
     private void leastTrimNone() {

@@ -26,10 +26,13 @@ final class Promise11CountTest {
         countsAre(due, x, 24, 120, 4, 4, 3, 240, 180, 360, 94, 86, 1, 3, -6, -6, -6, 4, 6);
         x.lay(1);
         countsAre(due, x, 24, 120, 4, 4, 4, 240, 240, 480, 142, 98, 2, 4, 2, 2, 1, 4, 6);
+        String before = Look.at(x);
+        due.is("count(12)", x.count(12), 2);
         due.is("count(-1)", x.count(-1), -2);
         due.is("count(17)", x.count(17), -2);
         due.is("count(MIN)", x.count(Integer.MIN_VALUE), -2);
         due.is("count(MAX)", x.count(Integer.MAX_VALUE), -2);
+        due.same("look", Look.at(x), before);
         x.takeUp(0);
         countsAre(due, x, 24, 120, 4, 4, 3, 240, 180, 480, 202, 98, 2, 3, -6, -6, -6, 4, 6);
         x.wipe();
@@ -37,11 +40,9 @@ final class Promise11CountTest {
     }
 
     private static void countsAre(Due due, MeetingCarpets x, int... wants) {
-        String before = Look.at(x);
         for (int what = 0; what < wants.length; what++) {
             due.is("count(" + what + ")", x.count(what), wants[what]);
         }
-        due.same("look", Look.at(x), before);
     }
 
     private static void meetingNeedsBothCrews(Due due) {
